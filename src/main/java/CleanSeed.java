@@ -146,7 +146,7 @@ public final class CleanSeed {
 
     public boolean harvest(int lot, int grams) {
         Lot reaped = book.lotAt(lot);
-        if (reaped == null || reaped.sort != FIELD || reaped.first > 0
+        if (reaped == null || reaped.sort != FIELD || reaped.first != NONE
                 || !within(grams, 1, MOST_HARVEST)) {
             return false;
         }
@@ -565,7 +565,7 @@ public final class CleanSeed {
         Lot mother = null;
         Lot second = null;
         int grams = 0;
-        int first = 0;
+        int first = NONE;
         int sown = 0;
         int mixed = 0;
         int bagged = 0;

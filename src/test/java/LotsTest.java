@@ -62,7 +62,7 @@ public final class LotsTest {
         x.tube(3);
         due.is("all of it", x.sow(0, 1, 100), 1);
         all(x, 0, 0, 3, 0, 0, -1, -1, -1, 100, 100, 0, 0, 0, 0, -1);
-        all(x, 1, 1, 3, 0, 0, 1, 0, -1, 0, 0, 0, 0, 0, 0, -1);
+        all(x, 1, 1, 3, 0, 0, 1, 0, -1, -1, 0, 0, 0, 0, 0, -1);
         due.is("nothing is left", x.sow(0, 0, 1), -1);
         due.is("it stands", x.stands(1, 0, 0), 3);
         due.is("the other stands not", x.stands(0, 0, 0), 0);
@@ -70,7 +70,7 @@ public final class LotsTest {
         due.is("not harvested, no grams", x.sow(1, 1, 1), -1);
         x.harvest(1, 50);
         due.is("the field is free in the next year", x.sow(1, 1, 20), 2);
-        all(x, 2, 1, 3, 0, 1, 1, 1, -1, 0, 0, 0, 0, 0, 0, -1);
+        all(x, 2, 1, 3, 0, 1, 1, 1, -1, -1, 0, 0, 0, 0, 0, -1);
         all(x, 1, 1, 3, 30, 0, 1, 0, -1, 50, 20, 0, 0, 0, 0, -1);
     }
 
@@ -121,6 +121,7 @@ public final class LotsTest {
         due.is("-1 grams", x.harvest(2, -1), false);
         due.is("100001 grams", x.harvest(2, 100001), false);
         due.is("no grams yet", x.told(2, 2), 0);
+        due.is("none at first, as none were harvested", x.told(2, 7), -1);
         due.is("100000 grams", x.harvest(2, 100000), true);
         due.is("grams", x.told(2, 2), 100000);
         due.is("at first", x.told(2, 7), 100000);

@@ -12,7 +12,7 @@ final class Model {
     record Look(int lot, int plants, int ill, int told) { }
 
     static final class Lot {
-        int sort, crop, grams, year, field = -1, first, sown, mixed, bagged, tossed, proven = -1;
+        int sort, crop, grams, year, field = -1, first = -1, sown, mixed, bagged, tossed, proven = -1;
         List<Integer> mothers = new ArrayList<>();
         boolean harvested;
     }
