@@ -3,6 +3,7 @@ final class Due {
     private final String name;
     private int asked = 0;
     private int wrong = 0;
+    private int open = 0;
 
     Due(String name) {
         this.name = name;
@@ -20,7 +21,19 @@ final class Due {
         is(call, got ? 1 : 0, want ? 1 : 0);
     }
 
+    /** A run that is begun and not ended would go without its comparison with the twin. */
+    void runBegins() {
+        open++;
+    }
+
+    void runEnds() {
+        open--;
+    }
+
     void end() {
+        if (open != 0) {
+            is("runs that were not ended", open, 0);
+        }
         System.out.println(name + ": " + asked + " answers, " + wrong + " wrong");
         if (asked == 0 || wrong > 0) {
             System.exit(1);

@@ -104,6 +104,9 @@ public final class KinBoundsTest {
         row(run, 2, 0, 2, 4);
         row(run, 2, 1, 0);
         row(run, 2, 2, 5);
+        row(run, 3, 0, 3, 4);
+        row(run, 3, 1, 1);
+        row(run, 3, 2);
         row(run, 4, 0, 4);
         row(run, 4, 1, 0, 1, 2, 3);
         row(run, 4, 2);

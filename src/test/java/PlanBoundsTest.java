@@ -58,16 +58,18 @@ public final class PlanBoundsTest {
 
     /** Promise 26: at most five; NONE: full. */
     private static void wantIsFull() {
-        Run run = withFields("26: full", 6, 1, 1, 1, 1).done("tube(1)", "tube(1)").refused("want(3)", "want(6)");
-        run.is("want(4)", 5).refused("want(5)", "want(0)", "want(6)").is("count(8)", 5);
-        plan(run, 0, 1, 2, 3, 4);
+        Run run = withFields("26: full", 6, 1, 2, 3, 4).done("tube(1)", "tube(1)", "stand(0, 0, 1)");
+        run.refused("want(3)", "want(6)").is("want(4)", 5).refused("want(5)", "want(0)", "want(6)").is("count(8)", 5);
+        plan(run, 1, 0, 2, 3, 4);
         run.end();
     }
 
     /** Promise 26: the same one once; NONE: told already. */
     private static void wantTwice() {
         Run run = withFields("26: told already", 3, 1, 2).refused("want(0)", "want(1)").done("tube(1)").is("want(2)", 3);
-        run.refused("want(0)", "want(1)", "want(2)").is("count(8)", 3).end();
+        run.refused("want(0)", "want(1)", "want(2)").is("count(8)", 3).done("stand(0, 0, 1)");
+        plan(run, 1, 0, 2);
+        run.end();
     }
 
     /** Promise 26: or NONE: none are. */
@@ -240,6 +242,12 @@ public final class PlanBoundsTest {
         middle.done("stand(0, 0, 1)");
         plan(middle, 1, -1);
         middle.end();
+        Run three = withFields("27: the first makes room for the second", 3, 1, 2, 3).done("stand(1, 0, 2)");
+        three.done("stand(2, 0, 2)", "stand(0, 0, 3)", "year()", "stand(1, 1, 3)");
+        plan(three, 1, 0, 2);
+        three.done("stand(1, 1, 1)", "stand(0, 0, 0)");
+        plan(three, 2, 0, 1);
+        three.end();
         Run five = withFields("27: five of five", 5, 1, 2, 3, 4, 1);
         for (int crop = 1; crop <= 4; crop++) {
             five.done("year()", "stand(" + (crop - 1) + ", " + crop + ", " + crop + ")");

@@ -18,6 +18,7 @@ final class Run {
     Run(Due due, String name) {
         this.due = due;
         this.name = name;
+        due.runBegins();
     }
 
     /** A call with its answer. */
@@ -62,6 +63,7 @@ final class Run {
     }
 
     void end() {
+        due.runEnds();
         due.is(name + ": calls of one object", all.size() <= MOST_CALLS - Census.CALLS, true);
         List<Call> questions = Census.of(replayed(true));
         int room = Math.max(1, MOST_CALLS - all.size());
