@@ -174,7 +174,11 @@ public final class CleanSeed {
 
     public int bag(int lot, int grams) {
         Lot source = book.lotAt(lot);
-        if (source == null || !source.has(grams) || book.bagCount >= MOST_BAGS || isOutNow(source)) {
+        if (source == null || !source.has(grams) || book.bagCount >= MOST_BAGS) {
+            return NONE;
+        }
+        assessor.assessUpTo(source.number, book.now);
+        if (source.rank == OUT) {
             return NONE;
         }
         source.grams -= grams;
@@ -193,7 +197,11 @@ public final class CleanSeed {
 
     public int seal(int bag) {
         Bag closed = book.bagAt(bag);
-        if (closed == null || !closed.isOpened() || closed.isSold() || isOutNow(closed.lot)) {
+        if (closed == null || !closed.isOpened() || closed.isSold()) {
+            return NONE;
+        }
+        assessor.assessUpTo(closed.lot.number, book.now);
+        if (closed.lot.rank == OUT) {
             return NONE;
         }
         closed.seal = book.nextSeal();
@@ -352,11 +360,6 @@ public final class CleanSeed {
     private Lot lotKnownIn(int lot, int q) {
         Lot found = book.lotAt(lot);
         return found != null && within(q, found.year, book.now) ? found : null;
-    }
-
-    private boolean isOutNow(Lot lot) {
-        assessor.assessUpTo(lot.number, book.now);
-        return lot.rank == OUT;
     }
 
     /** All that the office has been told, and the year that it is. */
@@ -634,7 +637,7 @@ public final class CleanSeed {
         int rankOfMothers() {
             int one = mother == null ? 0 : mother.rank;
             int other = second == null ? 0 : second.rank;
-            return Math.max(one, other);
+            return one > other ? one : other;
         }
     }
 
@@ -711,22 +714,15 @@ public final class CleanSeed {
         }
 
         private void assess(Lot lot, int q) {
-            lot.reason = reasonToRefuse(lot, q);
-            if (lot.reason != WHY_NONE) {
-                lot.rank = OUT;
-            } else {
-                lot.rank = lot.sort == FIELD ? lot.rankOfMothers() + 1 : lot.rankOfMothers();
-            }
-        }
-
-        private int reasonToRefuse(Lot lot, int q) {
             if (lot.isFalseAsKnownIn(q)) {
-                return WHY_FALSE;
+                lot.reason = WHY_FALSE;
+            } else if (lot.rankOfMothers() == OUT) {
+                lot.reason = WHY_MOTHER;
+            } else {
+                lot.reason = lot.sort == FIELD ? reasonInField(lot, q) : WHY_NONE;
             }
-            if (lot.rankOfMothers() == OUT) {
-                return WHY_MOTHER;
-            }
-            return lot.sort == FIELD ? reasonInField(lot, q) : WHY_NONE;
+            int rankIfFit = lot.sort == FIELD ? lot.rankOfMothers() + 1 : lot.rankOfMothers();
+            lot.rank = lot.reason == WHY_NONE ? rankIfFit : OUT;
         }
 
         private int reasonInField(Lot lot, int q) {
@@ -963,7 +959,7 @@ public final class CleanSeed {
         }
 
         private boolean fits(int place, int field) {
-            if (place < 0 || place >= size || field < 0 || field >= tooNear.length
+            if (place < 0 || place >= mayTake.length || field < 0 || field >= tooNear.length
                     || (mayTake[place] >> field & 1) == 0) {
                 return false;
             }
